@@ -983,21 +983,18 @@ public final class Cellweave {
         return false;
       }
     }
-    return now.isInOrder() && areTextsReadAnew(sheet) && areTextsLeftByPutIn(sheet);
-  }
-
-  private boolean areTextsReadAnew(Sheet sheet) {
     for (int place = 0; place < PLACES; place++) {
       Cell cell = sheet.cellAt(place);
       if (cell != null && cell.kind != CONSTANT) {
         page.setLength(0);
         cell.appendText(page);
-        if (reader.readText(page) != NONE || !reader.hasRead(cell)) {
+        int fault = reader.read(reader.signsOf(page), page.length());
+        if (fault != NONE || !reader.hasRead(cell)) {
           return false;
         }
       }
     }
-    return true;
+    return now.isInOrder() && areTextsLeftByPutIn(sheet);
   }
 
   /** Whether a row PUT IN at 5, if that can be, and TAKEN OUT again leaves the formulas as they are. */
@@ -1011,7 +1008,7 @@ public final class Cellweave {
         shift.becomePutIn(false, 5);
         shift.applyTo(cell.tokens, cell.tokens.length);
         shift.becomeTakeOut(false, 5);
-        shift.applyAgain();
+        shift.applyTo(shift.handOver(), shift.size());
         if (!shift.hasLeft(cell)) {
           return false;
         }
@@ -1119,7 +1116,7 @@ public final class Cellweave {
   }
 
   private static int lineOf(boolean isColumn, int place) {
-    return isColumn ? columnOf(place) : rowOf(place);
+    return isColumn ? place % COLUMNS : place / COLUMNS;
   }
 
   /** A box is all PLACES between two corners, told as its first PLACE and its last one in one number. */
@@ -1139,7 +1136,7 @@ public final class Cellweave {
   }
 
   private static int widthOfBox(int box) {
-    return Math.max(1, columnOf(box % PLACES) - columnOf(box / PLACES) + 1);
+    return box % PLACES % COLUMNS - box / PLACES % COLUMNS + 1;
   }
 
   private static int sizeOfBox(int box) {
@@ -1291,7 +1288,14 @@ public final class Cellweave {
 
     void appendShown(StringBuilder out) {
       if (kind == NUMBER) {
-        appendNumber(out);
+        if (size < 0) {
+          out.append('-');
+        }
+        appendWhole(out, part[2], part[1], part[0]);
+        if (part[3] != 1 || part[4] != 0 || part[5] != 0) {
+          out.append('/');
+          appendWhole(out, part[5], part[4], part[3]);
+        }
       } else if (kind == TEXT) {
         for (int i = 0; i < size && i < MOST_IN_TEXT; i++) {
           out.append((char) part[i]);
@@ -1303,18 +1307,7 @@ public final class Cellweave {
       }
     }
 
-    private void appendNumber(StringBuilder out) {
-      if (size < 0) {
-        out.append('-');
-      }
-      appendWhole(out, part[2], part[1], part[0]);
-      if (part[3] != 1 || part[4] != 0 || part[5] != 0) {
-        out.append('/');
-        appendWhole(out, part[5], part[4], part[3]);
-      }
-    }
-
-    /** Takes nine digits off the end three times; what is left then has one. */
+    /** Takes nine digits off the end four times, and appends what that makes, 18 at a time. */
     private static void appendWhole(StringBuilder out, long high, long middle, long low) {
       long billion = 1000000000L;
       long h = high;
@@ -1327,30 +1320,20 @@ public final class Cellweave {
         h /= billion;
         l += m % billion << LIMB_BITS;
         m /= billion;
-        long nine = l % billion;
+        long nine = turn % 2 == 0 ? l % billion : l % billion * billion;
         l /= billion;
-        if (turn == 0) {
-          lowDigits = nine;
-        } else if (turn == 1) {
-          lowDigits += nine * billion;
-        } else {
-          digits += turn == 2 ? nine : nine * billion;
-        }
+        lowDigits += turn < 2 ? nine : 0L;
+        digits += turn < 2 ? 0L : nine;
       }
-      if (digits != 0L) {
-        appendDigits(out, digits, false);
-      }
-      appendDigits(out, lowDigits, digits != 0L);
-    }
-
-    /** Appends 18 digits, or, at the beginning of a number, those without 0 ahead. */
-    private static void appendDigits(StringBuilder out, long number, boolean isBehindOthers) {
-      boolean isAll = isBehindOthers;
-      for (long unit = 100000000000000000L; unit > 0L; unit /= 10L) {
-        long digit = number / unit % 10L;
-        isAll = isAll || digit != 0L || unit == 1L;
-        if (isAll) {
-          out.append((char) ('0' + digit));
+      boolean isBegun = false;
+      for (int half = 0; half < 2; half++) {
+        long number = half == 0 ? digits : lowDigits;
+        for (long unit = 100000000000000000L; unit > 0L; unit /= 10L) {
+          long digit = number / unit % 10L;
+          isBegun = isBegun || digit != 0L || half == 1 && unit == 1L;
+          if (isBegun) {
+            out.append((char) ('0' + digit));
+          }
         }
       }
     }
@@ -1382,7 +1365,7 @@ public final class Cellweave {
     }
 
     void take(Natural other) {
-      size = Math.max(0, Math.min(other.size, LIMBS));
+      size = other.size < 0 ? 0 : other.size < LIMBS ? other.size : LIMBS;
       System.arraycopy(other.limb, 0, limb, 0, size);
     }
 
@@ -1416,8 +1399,10 @@ public final class Cellweave {
           limb[i + other.size] = (int) carry;
         }
       }
-      size = Math.max(0, room);
-      dropZeros();
+      size = 0;
+      for (int i = 0; i < room; i++) {
+        size = limb[i] != 0 ? i + 1 : size;
+      }
     }
 
     /** Adds the second to the first, or takes it off, if the sign is -1 (then it is not the greater one). */
@@ -1431,17 +1416,15 @@ public final class Cellweave {
         carry += mine + sign * theirs;
         limb[i] = (int) (carry & LIMB_MASK);
         carry >>= LIMB_BITS;
-        if (limb[i] != 0) {
-          size = i + 1;
-        }
+        size = limb[i] != 0 ? i + 1 : size;
       }
     }
 
     /** The number times a power of 2 (its exponent 0 to 29), in as many limbs as are told, zeros too. */
     void setShifted(Natural number, int exponent, int limbs) {
       int below = 0;
-      size = Math.min(limbs, LIMBS);
-      for (int i = 0; i < size; i++) {
+      size = limbs < LIMBS ? limbs : LIMBS;
+      for (int i = 0; i < size && i < LIMBS; i++) {
         int own = i < number.size ? number.limb[i] : 0;
         limb[i] = (int) ((own << exponent | below >>> (LIMB_BITS - exponent)) & LIMB_MASK);
         below = own;
@@ -1449,11 +1432,13 @@ public final class Cellweave {
     }
 
     void shiftBack(int exponent) {
-      for (int i = 0; i < size && i < LIMBS; i++) {
-        int above = i + 1 < size && i + 1 < LIMBS ? limb[i + 1] : 0;
+      int limbs = size;
+      size = 0;
+      for (int i = 0; i < limbs && i < LIMBS; i++) {
+        int above = i + 1 < limbs && i + 1 < LIMBS ? limb[i + 1] : 0;
         limb[i] = (int) ((limb[i] >>> exponent | above << (LIMB_BITS - exponent)) & LIMB_MASK);
+        size = limb[i] != 0 ? i + 1 : size;
       }
-      dropZeros();
     }
 
     /**
@@ -1462,7 +1447,10 @@ public final class Cellweave {
      */
     int takeOff(long digit, Natural other, int at) {
       long carry = 0L;
-      int end = Math.min(other.size, LIMBS - at - 1);
+      int end = other.size;
+      if (at < 0 || at + end >= LIMBS) {
+        return 0;
+      }
       for (int i = 0; i < end; i++) {
         carry += limb[at + i] - digit * other.limb[i];
         limb[at + i] = (int) (carry & LIMB_MASK);
@@ -1481,12 +1469,6 @@ public final class Cellweave {
       }
       limb[at + end] = (int) (limb[at + end] + carry & LIMB_MASK);
       return (int) (digit - 1L);
-    }
-
-    private void dropZeros() {
-      for (int i = Math.min(size, LIMBS) - 1; i >= 0 && limb[i] == 0; i--) {
-        size = i;
-      }
     }
   }
 
@@ -1905,8 +1887,11 @@ public final class Cellweave {
 
     /** NONE is what is GONE. */
     int placeAfter(int place) {
-      return isColumn ? placeOf(rowOf(place), lineAfter(columnOf(place)))
-          : placeOf(lineAfter(rowOf(place)), columnOf(place));
+      int line = lineAfter(lineOf(isColumn, place));
+      if (line == NONE) {
+        return NONE;
+      }
+      return isColumn ? rowOf(place) * COLUMNS + line : line * COLUMNS + columnOf(place);
     }
 
     private static int placeOf(int row, int column) {
@@ -1955,7 +1940,7 @@ public final class Cellweave {
       size = 0;
       for (int i = 0; i < many && i < from.length; i++) {
         int token = from[i];
-        int sign = tokenAt(from, i + 1);
+        int sign = i + 1 < many ? tokenAt(from, i + 1) : END;
         if (!isPlaceToken(token)) {
           append(token);
         } else if (sign == COLON) {
@@ -1987,11 +1972,16 @@ public final class Cellweave {
       }
     }
 
-    void applyAgain() {
-      int[] from = tokens;
+    /** Gives out what was made, and a row of its own to what is made next. */
+    int[] handOver() {
+      int[] made = tokens;
       tokens = spare;
-      spare = from;
-      applyTo(from, size);
+      spare = made;
+      return made;
+    }
+
+    int size() {
+      return size;
     }
 
     boolean hasLeft(Cell cell) {
@@ -2035,14 +2025,13 @@ public final class Cellweave {
       return isRead && at == count ? NONE : at;
     }
 
-    /** Reads a TEXT, in which "?" may stand. */
-    int readText(StringBuilder text) {
-      int many = Math.min(text.length(), MOST_TOKENS);
-      for (int i = 0; i < many; i++) {
+    /** The SIGNS of a TEXT, in which "?" may stand. */
+    int[] signsOf(StringBuilder text) {
+      for (int i = 0; i < text.length() && i < MOST_TOKENS; i++) {
         int sign = SIGNS.indexOf(text.charAt(i));
         textSigns[i] = sign < 0 ? QUESTION : sign;
       }
-      return read(textSigns, many);
+      return textSigns;
     }
 
     Cell newCell() {
@@ -2121,7 +2110,7 @@ public final class Cellweave {
     }
 
     private int peek() {
-      return at < count ? tokenAt(signs, at) : END;
+      return at >= 0 && at < count && at < signs.length ? signs[at] : END;
     }
 
     private void append(int token) {
@@ -2250,13 +2239,20 @@ public final class Cellweave {
       if (take(QUESTION)) {
         return true;
       }
-      int held = goneBy(DOLLAR) ? 2 : 0;
+      int held = 0;
+      if (peek() == DOLLAR) {
+        held = 2;
+        at++;
+      }
       int column = peek() - LETTER_A;
       if (column < 0 || column >= COLUMNS) {
         return false;
       }
       at++;
-      held += goneBy(DOLLAR) ? 1 : 0;
+      if (peek() == DOLLAR) {
+        held++;
+        at++;
+      }
       int row = peek();
       if (row < 1 || row > 9) {
         return false;
@@ -2269,12 +2265,6 @@ public final class Cellweave {
       }
       append(PLACE_TOKENS + held * PLACES + (row - 1) * COLUMNS + column);
       return true;
-    }
-
-    private boolean goneBy(int sign) {
-      boolean is = peek() == sign;
-      at += is ? 1 : 0;
-      return is;
     }
   }
 
@@ -2579,12 +2569,9 @@ public final class Cellweave {
       return token;
     }
 
-    /** What the formula that was started shows. */
+    /** What has come of the formula, EMPTY still counting for itself. */
     Value result() {
-      expression(0, 0);
-      Value value = slot(0);
-      value.countEmptyAsZero();
-      return value;
+      return slot(0);
     }
 
     /** Sets a slot to what comes; uses those above. The depth is how many "(" are open. */
@@ -3094,7 +3081,9 @@ public final class Cellweave {
             if (cell.kind == LIST) {
               spill(sheet, place, evaluator.reckonList());
             } else {
+              evaluator.expression(0, 0);
               shownAt(place).take(evaluator.result());
+              shownAt(place).countEmptyAsZero();
             }
           }
           levels[i] = levelAbove(needed[i]);
