@@ -16,10 +16,17 @@ public final class RandomRuns {
   private final List<String> log = new ArrayList<>();
   private final int rows;
   private final int columns;
+  // 0 anything, 1 long numbers, 2 lists, 3 a full sheet, 4 undoing and versions.
+  private final int mode;
+  // Calm runs change few rows, and their formulas need only what stands above, so that few rings come.
+  private final boolean isCalm;
+  private int target;
   private boolean isRight = true;
 
   private RandomRuns(long seed) {
     random = new Random(seed);
+    mode = (int) (seed % 7 % 5);
+    isCalm = seed % 3 != 0;
     rows = random.nextInt(4) == 0 ? 20 : 4 + random.nextInt(8);
     columns = random.nextInt(4) == 0 ? 8 : 2 + random.nextInt(3);
   }
@@ -131,6 +138,9 @@ public final class RandomRuns {
 
   private String placeText() {
     int p = Math.max(0, Math.min(159, aPlace()));
+    if (isCalm && p / 8 >= target / 8 && random.nextInt(25) > 0) {
+      p = p % 8 + (target < 8 ? 8 : 8 * random.nextInt(target / 8));
+    }
     String column = "" + (char) ('a' + p % 8);
     return (random.nextInt(6) == 0 ? "$" : "") + column + (random.nextInt(6) == 0 ? "$" : "")
         + (p / 8 + 1);
@@ -220,7 +230,35 @@ public final class RandomRuns {
     return b.toString();
   }
 
+  private String longNumber() {
+    switch (random.nextInt(5)) {
+      case 0:
+        return (random.nextBoolean() ? "-" : "") + random.nextInt(1000000) + "/" + (1 + random.nextInt(999));
+      case 1:
+        return "=" + placeText() + "*" + placeText();
+      case 2:
+        return "=" + placeText() + "/" + placeText() + "+-*/".charAt(random.nextInt(4)) + placeText();
+      case 3:
+        return "=S(" + placeText() + ":" + placeText() + ")";
+      default:
+        return "=" + "LMS".charAt(random.nextInt(3)) + "(" + range() + ")" + "*-+/<=".charAt(random.nextInt(6))
+            + placeText();
+    }
+  }
+
+  private String list() {
+    int list = random.nextInt(3);
+    return "=" + "OUF".charAt(list) + "(" + range() + (list == 2 ? "," + range() : "") + ")";
+  }
+
   private String content() {
+    if (mode == 1 && random.nextInt(5) > 0) {
+      return longNumber();
+    }
+    if (mode == 2 && random.nextInt(3) == 0) {
+      return random.nextInt(3) > 0 ? list() : "=" + (random.nextBoolean() ? "1" : "0")
+          + "<" + placeText();
+    }
     int kind = random.nextInt(20);
     if (kind < 5) {
       return "" + (random.nextInt(20) - 6);
@@ -232,9 +270,7 @@ public final class RandomRuns {
       return string(1 + random.nextInt(5));
     }
     if (kind < 11) {
-      String r = range();
-      int list = random.nextInt(3);
-      return "=" + "OUF".charAt(list) + "(" + r + (list == 2 ? "," + range() : "") + ")";
+      return list();
     }
     String text = "=" + expression(2);
     return text.length() > 40 ? "=" + placeText() : text;
@@ -263,13 +299,26 @@ public final class RandomRuns {
     }
   }
 
+  private int aCall() {
+    if (mode == 3 && random.nextInt(4) == 0) {
+      return 17 + random.nextInt(4);
+    }
+    if (mode == 4 && random.nextInt(3) == 0) {
+      return 31 + random.nextInt(9);
+    }
+    int call = random.nextInt(48);
+    boolean isRough = call >= 15 && call <= 23 || call >= 31 && call <= 32;
+    return isCalm && isRough && random.nextInt(6) > 0 ? random.nextInt(14) : call;
+  }
+
   private void anyCall() {
     boolean isColumn = random.nextInt(3) == 0;
-    switch (random.nextInt(48)) {
+    switch (aCall()) {
       case 0: case 1: case 2: case 3: case 4: case 5: case 6: case 7: case 8: case 9:
       case 10: case 11: case 12: case 13:
+        target = Math.max(0, Math.min(159, aPlace()));
         type(content());
-        same("put", aPlace());
+        same("put", target);
         return;
       case 14:
         askFault();
@@ -284,7 +333,7 @@ public final class RandomRuns {
         same("fill", aPlace(), aPlace(), aPlace());
         return;
       case 20:
-        same("goOn", aPlace(), 1 + random.nextInt(6));
+        same("goOn", aPlace(), random.nextInt(8));
         return;
       case 21:
         same("putIn", isColumn, line(isColumn));
