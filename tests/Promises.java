@@ -174,6 +174,9 @@ public final class Promises {
         {"=F(a1,b1)", -1}, {"=F(a1)", 5}, {"=O(a1)+1", 6}, {"=1+O(a1)", 3}, {"=-O(a1)", 2},
         {"=(O(a1))", 2}, {"=O(1)", 3}, {"=((((((((1))))))))", -1}, {"=(((((((((1)))))))))", 9},
         {"=((((((((1)))))))+(1", 20}, {"=(((((((S(a1))))))))", -1}, {"=((((((((S(a1", 10},
+        {"=((((((I(1,2,(1))))))))", -1}, {"=((((((I(1,(2),(1))))))))", -1}, {"=((((((I((1),2,((1", 16},
+        {"=((((((K((1),a1,a2)))))))", -1}, {"=((((((K(((1", 10}, {"=((((((C(a1,((1", 13},
+        {"=((((((N(((1", 10}, {"=(((((((I(1,(2", 12}, {"=(((((((I(1,2,(2", 14},
     };
     for (Object[] one : all) {
       due("fault of " + one[0], faultOf((String) one[0]), one[1]);
@@ -362,6 +365,8 @@ public final class Promises {
     due("barred by a cell", y.value(at("h19")), "#bar");
     due("barred by the end", y.value(at("g20")), "#bar");
     due("a list of one", y.value(at("g19")), "1");
+    set(y, "a20", "=O(g19:g20)");
+    due("barred by the end of the first column", y.value(at("a20")) + y.ofPlace(at("a20"), 10), "#bar0");
     y.clear(at("h20"));
     due("not barred", y.value(at("h19")) + y.value(at("h20")), "12");
     set(y, "c1", "=h20=2");

@@ -648,7 +648,7 @@ public final class Cellweave {
     Cell first = one.cellAt(place);
     Cell second = other.cellAt(place);
     if (first == null || second == null) {
-      return first == second;
+      return first == null && second == null;
     }
     return first.hasTextOf(second, page);
   }
@@ -1562,6 +1562,10 @@ public final class Cellweave {
       }
       if (left.sign == 0) {
         left.setZero();
+        return;
+      }
+      if (common.isOne()) {
+        left.bottom.setProduct(third, fourth);
         return;
       }
       divide(left.top, common, first);
