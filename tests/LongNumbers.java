@@ -11,6 +11,7 @@ public final class LongNumbers {
     for (int seed = 1; seed <= many; seed++) {
       wrong += wrongIn(seed);
     }
+    wrong += wrongInGoingOn();
     if (longs < many || nearly < many) {
       System.out.println("too few long numbers came: " + longs + ", " + nearly);
       wrong++;
@@ -31,12 +32,7 @@ public final class LongNumbers {
     int wrong = 0;
     for (int p = 0; p < 60; p++) {
       String text = p < 12 ? number(random) : formula(random, p);
-      for (int i = 0; i < text.length(); i++) {
-        x.sign(Model.SIGNS.indexOf(text.charAt(i)));
-        m.sign(Model.SIGNS.indexOf(text.charAt(i)));
-      }
-      x.put(p);
-      m.put(p);
+      put(x, m, p, text);
       String due = m.value(p);
       longs += due.equals("#long") ? 1 : 0;
       nearly += due.length() > 22 ? 1 : 0;
@@ -52,6 +48,41 @@ public final class LongNumbers {
       wrong++;
     }
     return wrong;
+  }
+
+  /** Constants with ever longer bottoms, each gone on with from the one before, till that is too long. */
+  private static int wrongInGoingOn() {
+    Cellweave x = new Cellweave();
+    Model m = new Model();
+    int[] primes = {991, 983, 977, 971, 967, 953, 947, 941, 937, 929};
+    put(x, m, 0, "1/997");
+    int refused = 0;
+    for (int i = 0; i < primes.length; i++) {
+      int first = i % 8 + i / 8 * 40;
+      put(x, m, first + 8, "1/" + primes[i]);
+      String last = m.goOn(first, 2);
+      String got = x.goOn(first, 2);
+      refused += last.equals("-9") ? 1 : 0;
+      int next = (i + 1) % 8 + (i + 1) / 8 * 40;
+      if (!got.equals(last) || x.copy(first + 16, next) != m.copy(first + 16, next) || x.digest() != m.digest()) {
+        System.out.println("going on from " + first + " answers " + got + ", due is " + last);
+        return 1;
+      }
+    }
+    if (refused == 0) {
+      System.out.println("no number was too long to go on with");
+      return 1;
+    }
+    return 0;
+  }
+
+  private static void put(Cellweave x, Model m, int place, String text) {
+    for (int i = 0; i < text.length(); i++) {
+      x.sign(Model.SIGNS.indexOf(text.charAt(i)));
+      m.sign(Model.SIGNS.indexOf(text.charAt(i)));
+    }
+    x.put(place);
+    m.put(place);
   }
 
   private static String number(Random random) {

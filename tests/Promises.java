@@ -315,6 +315,12 @@ public final class Promises {
         {"=K('abc',a1:a3,b1:b3)", "0"}, {"=K('abc',a1:a3,b1:b2)", "#none"}, {"=K(5,a1:a3,b1:b3)", "#none"},
         {"=K(1/0,n0,n1)", "#zero"}, {"=K(5,n0,n1)", "#name"}, {"=K(5,a1,n1)", "#name"},
         {"=K(T,b1:c1,b1:c1)", "true"}, {"=K(3,a1:c1,c1)", "#zero"}, {"=K(d1,a1:d1,b1)", "#none"},
+        {"=K(3,a1,b1)", "true"}, {"=K(3,a1,a1)", "3"}, {"=K(4,a1,a1)", "#none"},
+        {"=((((((((a1))))))))", "3"}, {"=C(d1,C(d1,C(d1,C(d1,C(d1,C(d1,1))))))", "0"},
+        {"=(((((C(a1,C(a1,C(a1,3))))))))", "0"}, {"=N(N(N(N(N(N(N(N(1/0))))))))", "false"},
+        {"=((((I(T,I(T,I(T,I(T,7,1),2),3),4)))))", "7"}, {"=(((((I(X,1,I(X,1,(8))))))))", "8"},
+        {"=((((((I((T),(5),6)))))))", "5"}, {"=(((((((S(a1)))))))+1)", "4"},
+        {"=(((((((K(3,a1,a2))))))))", "-1/2"}, {"=((((K((K((3),a1,a1)),a1,a2)))))", "-1/2"},
         {"=S(a1)+S(b2)", "6"}, {"=N(1/0)&1", "true1"},
     };
     for (String[] one : all) {
@@ -349,6 +355,8 @@ public final class Promises {
     due("F of an empty one", x.value(4), "0");
     set(x, "e1", "=F(a1:a9,a6)");
     due("a missing partner", x.ofPlace(4, 10), 1);
+    set(x, "e1", "=F(a6,a6)");
+    due("F of one", x.value(4), "true");
     set(x, "e1", "=F(n0,a1)");
     due("F without a name", x.value(4), "#name");
     set(x, "e1", "=O(g1:g2)");

@@ -522,7 +522,7 @@ public final class Cellweave {
     return conflicts;
   }
 
-  /** Sets what is tried to the sheet with the CELLS of theirs, where these come; answers how many CONFLICTS. */
+  /** Sets what is tried to the sheet with those CELLS that come; answers how many CONFLICTS. */
   private int joinCells(Sheet old, Sheet theirs) {
     tried.take(history.sheet());
     int conflicts = 0;
@@ -997,7 +997,7 @@ public final class Cellweave {
     return now.isInOrder() && areTextsLeftByPutIn(sheet);
   }
 
-  /** Whether a row PUT IN at 5, if that can be, and TAKEN OUT again leaves the formulas as they are. */
+  /** Whether a row PUT IN at 5, if that can be, and TAKEN OUT again leaves all formulas. */
   private boolean areTextsLeftByPutIn(Sheet sheet) {
     if (!sheet.isLastLineFree(false)) {
       return true;
@@ -1119,7 +1119,7 @@ public final class Cellweave {
     return isColumn ? place % COLUMNS : place / COLUMNS;
   }
 
-  /** A box is all PLACES between two corners, told as its first PLACE and its last one in one number. */
+  /** A box is all PLACES between two corners: its first PLACE and its last one in one number. */
   private static int boxOf(int one, int other) {
     int first = Math.min(rowOf(one), rowOf(other)) * COLUMNS
         + Math.min(columnOf(one), columnOf(other));
@@ -1339,7 +1339,7 @@ public final class Cellweave {
     }
   }
 
-  /** A whole number from 0 on: limbs of 30 binary digits, the lowest first, none of 0 at the top. */
+  /** A whole number from 0 on: limbs of 30 binary digits, the lowest first, no 0 at the top. */
   private static final class Natural {
     final int[] limb = new int[LIMBS];
     int size;
@@ -1405,7 +1405,7 @@ public final class Cellweave {
       }
     }
 
-    /** Adds the second to the first, or takes it off, if the sign is -1 (then it is not the greater one). */
+    /** Adds the second to the first; with the sign -1 takes it off (it must not be greater). */
     void setSum(Natural one, Natural other, int sign) {
       int room = Math.min(Math.max(one.size, other.size) + 1, LIMBS);
       long carry = 0L;
@@ -1420,7 +1420,7 @@ public final class Cellweave {
       }
     }
 
-    /** The number times a power of 2 (its exponent 0 to 29), in as many limbs as are told, zeros too. */
+    /** The number times a power of 2 (exponent 0 to 29), in so many limbs, also of 0. */
     void setShifted(Natural number, int exponent, int limbs) {
       int below = 0;
       size = limbs < LIMBS ? limbs : LIMBS;
@@ -1537,8 +1537,8 @@ public final class Cellweave {
     }
 
     /**
-     * Adds right to left, of which only left may be longer than a NUMBER. What both bottoms have in
-     * common is all that can be cut behind adding, so that no common divisor of long ones is sought.
+     * Adds right to left, of which only left may be longer than a NUMBER. What both bottoms have
+     * in common is all that can be cut then, so that no common divisor of long ones is sought.
      */
     void addRight() {
       if (right.sign == 0) {
@@ -1629,7 +1629,7 @@ public final class Cellweave {
       long b = ((long) other.limbAt(1) << LIMB_BITS) + other.limbAt(0);
       long bHigh = other.limbAt(2);
       int twos = 0;
-      for (int turn = 0; turn < 1000 && (a != 0L || aHigh != 0L) && (b != 0L || bHigh != 0L); turn++) {
+      for (int turn = 0; turn < 1000 && (a | aHigh) != 0L && (b | bHigh) != 0L; turn++) {
         boolean isOdd = (a & 1L) != 0L;
         boolean isOtherOdd = (b & 1L) != 0L;
         if (isOdd && isOtherOdd) {
@@ -1818,7 +1818,7 @@ public final class Cellweave {
       }
     }
 
-    /** Whether a range with "#" in it has a LIST that shows another number of VALUES in these two. */
+    /** Whether a range with "#" has a LIST that shows more or fewer VALUES in the other weave. */
     boolean hasOtherSpan(Weave one, Weave other) {
       for (int i = 0; i < tokens.length; i++) {
         if (isPlaceToken(tokens[i]) && tokenAt(tokens, i + 1) == HASH) {
@@ -2880,7 +2880,7 @@ public final class Cellweave {
       value.setFault(NOT_THERE);
     }
 
-    /** Reckons the LIST that was started; answers how many VALUES it has, 0 if it came to a VALUE. */
+    /** Reckons a LIST; answers how many VALUES it has, 0 if it came to a VALUE (the first then). */
     int reckonList() {
       int sign = next();
       at++;
