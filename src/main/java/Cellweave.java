@@ -1675,11 +1675,15 @@ public final class Cellweave {
         rest.setSmall(0);
         return;
       }
-      int exponent = Math.max(0, Integer.numberOfLeadingZeros(by.limb[size - 1]) - 2);
+      // With its highest binary digit set, the divisor's head tells each digit but for 2 at most.
+      long head = by.limb[size - 1];
+      int exponent = 0;
+      for (; exponent < LIMB_BITS - 1 && 2L * head < LIMB_BASE; exponent++) {
+        head = 2L * head;
+      }
       scaled.setShifted(by, exponent, size);
       rest.setShifted(number, exponent, number.size + 1);
-      // With its highest binary digit set, the divisor's head tells each digit but for 2 at most.
-      long head = scaled.limb[size - 1];
+      head = scaled.limb[size - 1];
       if (head < 1L) {
         return;
       }
@@ -2827,8 +2831,10 @@ public final class Cellweave {
         if (sign == SUM) {
           arithmetic.right.take(next);
           arithmetic.addRight();
-        } else if (value.kind == EMPTY
-            || arithmetic.order(next, value) < 0 == (sign == LEAST)) {
+          continue;
+        }
+        int order = arithmetic.order(next, value);
+        if (value.kind == EMPTY || (sign == LEAST ? order < 0 : order > 0)) {
           value.take(next);
         }
       }
