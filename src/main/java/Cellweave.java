@@ -1815,8 +1815,9 @@ public final class Cellweave {
     private static void markBox(int box, boolean[] marks) {
       int first = box / PLACES;
       int last = box % PLACES;
-      for (int place = first; place <= last && place < marks.length; place++) {
-        if (columnOf(place) >= columnOf(first) && columnOf(place) <= columnOf(last)) {
+      int width = widthOfBox(box);
+      for (int row = first; row >= 0 && row <= last; row += COLUMNS) {
+        for (int place = row; place < row + width && place < marks.length; place++) {
           marks[place] = true;
         }
       }
