@@ -1,94 +1,5 @@
 /** At least one test for each promise: ordinary calls, the edges that the document names, wrong arguments. */
-public final class Promises {
-  private static int wrong = 0;
-  private static int promise = 0;
-
-  private interface Call {
-    Object run();
-  }
-
-  private static void due(String what, Object got, Object want) {
-    if (!want.equals(got)) {
-      wrong++;
-      System.out.println("promise " + promise + ": " + what + " is " + got + ", due is " + want);
-    }
-  }
-
-  /** The call must throw this, and nothing may be changed by it. */
-  private static void thrown(Cellweave x, String what, Class<?> kind, Call call) {
-    String before = seen(x);
-    Object got;
-    try {
-      got = call.run();
-    } catch (RuntimeException e) {
-      got = e.getClass();
-    }
-    due(what, got, kind);
-    due(what + ": what is left", seen(x), before);
-  }
-
-  private static void bad(Cellweave x, String what, Call call) {
-    thrown(x, what, IllegalArgumentException.class, call);
-  }
-
-  private static void notNow(Cellweave x, String what, Call call) {
-    thrown(x, what, IllegalStateException.class, call);
-  }
-
-  private static String seen(Cellweave x) {
-    return x.all() + x.digest() + x.input() + x.named(0) + x.house(8) + "," + x.house(9);
-  }
-
-  private static void type(Cellweave x, String text) {
-    x.rub(40);
-    for (int i = 0; i < text.length(); i++) {
-      x.sign(Model.SIGNS.indexOf(text.charAt(i)));
-    }
-  }
-
-  private static int at(String place) {
-    return Model.placeNamed(place);
-  }
-
-  private static int set(Cellweave x, String place, String text) {
-    type(x, text);
-    return x.put(at(place));
-  }
-
-  /** A sheet of texts like "a1:5 b1:=a1". */
-  private static Cellweave sheet(String cells) {
-    Cellweave x = new Cellweave();
-    for (String cell : cells.split(" ")) {
-      if (!cell.isEmpty()) {
-        int colon = cell.indexOf(':');
-        due("put of " + cell, set(x, cell.substring(0, colon), cell.substring(colon + 1)), -1);
-      }
-    }
-    return x;
-  }
-
-  /** What a formula shows at h20 of a sheet. */
-  private static String shows(String cells, String formula) {
-    Cellweave x = sheet(cells);
-    due("put of " + formula, set(x, "h20", formula), -1);
-    return x.value(159);
-  }
-
-  private static int faultOf(String text) {
-    Cellweave x = new Cellweave();
-    type(x, text);
-    return x.fault();
-  }
-
-  /** 60 CELLS, all of them 7, from a1 on. */
-  private static Cellweave full() {
-    Cellweave x = sheet("a1:7");
-    due("fill", x.fill(0, 0, at("h7")), 55);
-    due("fill", x.fill(0, at("a8"), at("d8")), 4);
-    due("cells", x.house(0), 60);
-    return x;
-  }
-
+public final class Promises extends Bench {
   public static void main(String[] args) {
     input();
     puts();
@@ -107,18 +18,16 @@ public final class Promises {
     groups();
     reasons();
     questions();
-    if (wrong > 0) {
-      System.exit(1);
-    }
+    end();
   }
 
   private static void input() {
-    promise = 1;
+    edge("promise 1");
     Cellweave n = new Cellweave();
     due("all()", n.all(), "");
     due("input()", n.input(), "");
     due("house", n.house(0) + n.house(1) + n.house(5) + n.house(8) + n.house(10) + n.house(11), 0);
-    promise = 2;
+    edge("promise 2");
     Cellweave x = new Cellweave();
     for (int i = 0; i < 40; i++) {
       due("sign()", x.sign(i), i + 1);
@@ -126,9 +35,9 @@ public final class Promises {
     notNow(x, "sign(0) behind 40", () -> x.sign(0));
     bad(x, "sign(45) behind 40", () -> x.sign(45));
     bad(x, "sign(-1)", () -> x.sign(-1));
-    promise = 5;
+    edge("promise 5");
     due("input()", x.input(), Model.SIGNS.substring(0, 40));
-    promise = 4;
+    edge("promise 4");
     due("rub(0)", x.rub(0), 40);
     due("rub(3)", x.rub(3), 37);
     due("rub(many)", x.rub(Integer.MAX_VALUE), 0);
@@ -137,7 +46,7 @@ public final class Promises {
       x.sign(s);
     }
     due("input()", x.input(), "FUNTX");
-    promise = 3;
+    edge("promise 3");
     Cellweave y = new Cellweave();
     due("place()", y.place(0, 0), 2);
     due("place()", y.place(159, 1), 6);
@@ -154,7 +63,7 @@ public final class Promises {
     notNow(y, "place() behind 38", () -> y.place(80, 0));
     bad(y, "place(160) behind 38", () -> y.place(160, 3));
     due("place()", y.place(8, 0), 40);
-    promise = 6;
+    edge("promise 6");
     faults();
   }
 
@@ -184,7 +93,7 @@ public final class Promises {
   }
 
   private static void puts() {
-    promise = 7;
+    edge("promise 7");
     Cellweave x = new Cellweave();
     due("put() of nothing", x.put(0), 0);
     bad(x, "put(160) of nothing", () -> x.put(160));
@@ -221,7 +130,7 @@ public final class Promises {
   }
 
   private static void values() {
-    promise = 27;
+    edge("promise 27");
     String[][] all = {
         {"=1+2*3-4/2", "5"}, {"=7/2", "7/2"}, {"=-7/2", "-7/2"}, {"=1/0", "#zero"}, {"=0/0", "#zero"},
         {"='a'/0", "#kind"}, {"='a'+1", "#kind"}, {"='a'+1/0", "#zero"}, {"=1&2", "12"}, {"=1&2+3", "#kind"}, {"=1+2&3", "33"}, {"=T&X&1/2", "truefalse1/2"},
@@ -264,13 +173,13 @@ public final class Promises {
   }
 
   private static void places() {
-    promise = 28;
+    edge("promise 28");
     Cellweave x = sheet("a1:=$b$2+b3&'a1' h20:=g20");
     due("text()", x.text(0), "=$b$2+b3&'a1'");
     due("text() of an empty place", x.text(5), "");
     bad(x, "text(160)", () -> x.text(160));
     bad(x, "text(-1)", () -> x.text(-1));
-    promise = 9;
+    edge("promise 9");
     due("copy()", x.copy(0, at("b2")), 0);
     due("text()", x.text(at("b2")), "=$b$2+c4&'a1'");
     due("a ring", x.value(at("b2")), "#circle");
@@ -302,7 +211,7 @@ public final class Promises {
   }
 
   private static void functions() {
-    promise = 27;
+    edge("promise 27");
     String cells = "a1:3 a2:-1/2 a3:abc b1:=T b2:3 c1:=1/0";
     String[][] all = {
         {"=S(a1:b2)", "11/2"}, {"=S(a1:a4)", "5/2"}, {"=S(d1:d9)", "0"}, {"=S(a1:c1)", "#zero"},
@@ -333,7 +242,7 @@ public final class Promises {
   }
 
   private static void lists() {
-    promise = 27;
+    edge("promise 27");
     Cellweave x = sheet("a1:2 a2:abc a3:=1/0 a4:2 a5:ab a6:=T a7:=X a8:1/2 a9:='' c1:=O(a1:a10)");
     String due = "1/2 2 2  ab abc false true #zero ";
     StringBuilder got = new StringBuilder();
@@ -382,7 +291,7 @@ public final class Promises {
   }
 
   private static void needs() {
-    promise = 30;
+    edge("promise 30");
     Cellweave x = sheet("a1:1 a2:2 b1:=O(a1:a2) c1:=b2 c2:=b9 c3:=S(b1#) d1:5");
     due("needs()", x.needs(at("c1"), false), "1");
     due("needs() far below", x.needs(at("c2"), false), "1");
@@ -399,7 +308,7 @@ public final class Promises {
     set(x, "e1", "=I(T,1,a1)+S(n0)");
     x.name(0, 8, 8);
     due("what is not looked at, and names", x.needs(4, false), "0 8");
-    promise = 31;
+    edge("promise 31");
     Cellweave r = sheet("a1:=b1 b1:=c1+1 c1:=a1 d1:=a1 e1:=e1 f1:7");
     due("ring()", r.ring(0), "0 1 2");
     due("ring() of one", r.ring(4), "4");
@@ -409,7 +318,7 @@ public final class Promises {
     bad(r, "ring(160)", () -> r.ring(160));
     bad(r, "ring(-1)", () -> r.ring(-1));
     due("a list over itself", shows("", "=U(h19:h20)") + shows("", "=O(h1:h3)"), "#circle#none");
-    promise = 29;
+    edge("promise 29");
     due("levels", "" + r.ofPlace(0, 2) + r.ofPlace(5, 2) + r.ofPlace(6, 2), "-100");
     due("on a ring", "" + r.ofPlace(0, 3) + r.ofPlace(3, 3) + r.ofPlace(4, 3), "101");
     due("needs", "" + r.ofPlace(0, 4) + r.ofPlace(0, 5) + r.ofPlace(0, 6) + r.ofPlace(3, 6), "1240");
@@ -424,14 +333,14 @@ public final class Promises {
     bad(x, "ofPlace(0, -1)", () -> x.ofPlace(0, -1));
     bad(x, "ofPlace(160, 0)", () -> x.ofPlace(160, 0));
     bad(x, "ofPlace(-1, 0)", () -> x.ofPlace(-1, 0));
-    promise = 32;
+    edge("promise 32");
     due("source()", "" + x.source(0) + x.source(at("b2")) + x.source(at("b3")), "01-1");
     bad(x, "source(160)", () -> x.source(160));
     bad(x, "source(-1)", () -> x.source(-1));
   }
 
   private static void reckoned() {
-    promise = 35;
+    edge("promise 35");
     Cellweave x = sheet("a1:1 b1:=a1*0 c1:=b1+1 d1:=S(a1:a9) e1:=d1");
     set(x, "a1", "2");
     due("only what reads another value", x.reckoned(), "1 3 4");
@@ -464,7 +373,7 @@ public final class Promises {
   }
 
   private static void edits() {
-    promise = 8;
+    edge("promise 8");
     Cellweave x = sheet("a1:1 b1:=a1 c1:=b1");
     due("clear()", x.clear(0), 2);
     due("clear() again", x.clear(0), 0);
@@ -475,7 +384,7 @@ public final class Promises {
     due("clear() of an empty locked place", x.clear(99), -9);
     bad(x, "clear(160)", () -> x.clear(160));
     bad(x, "clear(-1)", () -> x.clear(-1));
-    promise = 10;
+    edge("promise 10");
     Cellweave f = sheet("b2:=a1");
     due("fill()", f.fill(at("b2"), at("c3"), at("a2")), 5);
     due("all()", f.all(), "a2:=?;b2:=a1;c2:=b1;a3:=?;b3:=a2;c3:=b2");
@@ -490,7 +399,7 @@ public final class Promises {
     bad(f, "fill(-1)", () -> f.fill(-1, 0, 0));
     bad(f, "fill(0, 160)", () -> f.fill(0, 160, 0));
     bad(f, "fill(0, 0, -1)", () -> f.fill(0, 0, -1));
-    promise = 11;
+    edge("promise 11");
     Cellweave g = sheet("a1:1/2 a2:1/3 b1:1 b2:=2 c1:5 c2:5 d18:1 d19:2 e1:1 e2:T");
     due("goOn()", g.goOn(0, 3), "-1/6");
     due("all", g.value(at("a3")) + " " + g.value(at("a4")), "1/6 0");
@@ -524,7 +433,7 @@ public final class Promises {
   }
 
   private static void lines() {
-    promise = 12;
+    edge("promise 12");
     Cellweave x = sheet("a1:1 b3:=S(a1:a4)&a3&$a$2 c4:=O(a1)");
     x.name(0, at("b5"), at("a2"));
     x.lock(at("d3"), true);
@@ -553,7 +462,7 @@ public final class Promises {
     Cellweave z = new Cellweave();
     z.name(2, at("h1"), at("a3"));
     due("putIn() with a name", "" + z.putIn(true, 0) + z.putIn(false, 0), "-90");
-    promise = 13;
+    edge("promise 13");
     Cellweave t = sheet("a1:1 a2:2 b2:3 c1:=S(a1:b2)&a2 d1:=S(a2:b1) e1:=S(a2:b2) e4:=C(a2#,a3)");
     t.name(0, at("a2"), at("c2"));
     t.name(1, at("a2"), at("c3"));
@@ -578,7 +487,7 @@ public final class Promises {
     due("lesser corners", u.all(), "f1:=S(a1:a$3)+S($a3:a1)");
     u.takeOut(true, 0);
     due("both corners", u.all(), "e1:=S(?)+S(?)");
-    promise = 14;
+    edge("promise 14");
     Cellweave m = sheet("a1:1 a2:2 a3:3 b1:=S(a1:a2)&a3 h20:=a1");
     m.name(0, at("a1"), at("b2"));
     m.lock(at("c1"), true);
@@ -598,7 +507,7 @@ public final class Promises {
   }
 
   private static void sorts() {
-    promise = 15;
+    edge("promise 15");
     Cellweave x = sheet("a1:5 b1:a a2:abc b2:b a4:5 b4:c a5:-1 c3:7 h9:=a1");
     x.check(at("a1"), 0, 9);
     x.name(0, 0, 1);
@@ -625,19 +534,19 @@ public final class Promises {
   }
 
   private static void names() {
-    promise = 16;
+    edge("promise 16");
     Cellweave x = sheet("a1:1 b2:2 c1:=S(n3)");
     due("before", x.value(2), "#name");
     due("name()", x.name(3, at("b1"), at("a2")), 0);
     due("value()", x.value(2), "3");
     due("name() again", x.name(3, 0, 0), 1);
     due("value()", x.value(2), "1");
-    promise = 37;
+    edge("promise 37");
     due("named()", x.named(3), "a1:a1");
     due("named()", x.named(2), "");
     bad(x, "named(6)", () -> x.named(6));
     bad(x, "named(-1)", () -> x.named(-1));
-    promise = 16;
+    edge("promise 16");
     due("name(NONE)", x.name(3, -1, 999), 1);
     due("name(NONE)", x.name(3, -1, -5), 0);
     due("value()", x.value(2), "#name");
@@ -647,25 +556,25 @@ public final class Promises {
     bad(x, "name(0, 160)", () -> x.name(0, 160, 0));
     bad(x, "name(0, 0, -1)", () -> x.name(0, 0, -1));
     bad(x, "name(0, 0, 160)", () -> x.name(0, 0, 160));
-    promise = 17;
+    edge("promise 17");
     due("lock()", "" + x.lock(5, true) + x.lock(5, true) + x.lock(5, false) + x.lock(5, false), "0110");
     bad(x, "lock(160)", () -> x.lock(160, true));
     bad(x, "lock(-1)", () -> x.lock(-1, true));
-    promise = 18;
+    edge("promise 18");
     due("check()", "" + x.check(0, 0, 0) + x.check(0, 1, 1) + x.check(0, 2, 9) + x.check(0, 2, 1), "1010");
     due("check() of an empty place", x.check(99, 5, 6), 0);
     due("check() of a fault", x.check(2, -5, 6), 1);
     due("check() of the greatest", x.check(0, Integer.MIN_VALUE, Integer.MAX_VALUE), 0);
     set(x, "a1", "3/2");
     due("check() of a fraction", "" + x.check(0, 1, 2) + x.check(0, 2, 2) + x.check(0, 1, 1), "011");
-    promise = 36;
+    edge("promise 36");
     due("bad()", x.bad(), "0 2");
     bad(x, "check(160)", () -> x.check(160, 0, 0));
     bad(x, "check(-1)", () -> x.check(-1, 0, 0));
   }
 
   private static void goals() {
-    promise = 19;
+    edge("promise 19");
     Cellweave x = sheet("a1:1 b1:=a1*a1 c1:=T");
     due("goal()", x.goal(0, 1, -5, 5, 9), -3);
     due("value()", x.value(0), "-3");
@@ -687,7 +596,7 @@ public final class Promises {
     bad(x, "goal(to below)", () -> x.goal(0, 0, 5, 4, 0));
     bad(x, "goal(to beyond)", () -> x.goal(0, 0, 5, 26, 0));
     due("goal() with a 61st cell", full().goal(159, 0, 1, 2, 7), -9999);
-    promise = 34;
+    edge("promise 34");
     due("whatIf()", x.whatIf(0, 1, -1, 2, 3), "1 1 9");
     due("whatIf() of an empty place", x.whatIf(0, 150, 0, 0, 3), "  ");
     due("nothing is changed", x.value(0), "-9");
@@ -701,7 +610,7 @@ public final class Promises {
   }
 
   private static void versions() {
-    promise = 26;
+    edge("promise 26");
     Cellweave x = sheet("a1:1 a2:2");
     x.name(0, 0, 8);
     int edits = x.house(8);
@@ -710,14 +619,14 @@ public final class Promises {
     due("no edit", x.house(8), edits);
     bad(x, "keep(3)", () -> x.keep(3));
     bad(x, "keep(-1)", () -> x.keep(-1));
-    promise = 38;
+    edge("promise 38");
     set(x, "a1", "3");
     set(x, "c9", "=a1");
     due("differs()", x.differs(0), "0 66");
     due("differs() of an empty one", x.differs(1), "0 8 66");
     bad(x, "differs(3)", () -> x.differs(3));
     bad(x, "differs(-1)", () -> x.differs(-1));
-    promise = 20;
+    edge("promise 20");
     x.keep(1);
     x.name(0, -1, 0);
     x.lock(0, true);
@@ -739,7 +648,7 @@ public final class Promises {
     t.back(2);
     t.back(0);
     due("a constant stays the value that it is", t.ofPlace(at("a3"), 0), 1);
-    promise = 21;
+    edge("promise 21");
     Cellweave j = sheet("a1:1 a2:2 a3:3 a4:4");
     j.name(0, 0, 0);
     j.name(1, 1, 1);
@@ -769,18 +678,18 @@ public final class Promises {
   }
 
   private static void groups() {
-    promise = 22;
+    edge("promise 22");
     Cellweave x = new Cellweave();
     due("open()", x.open(), 0);
     set(x, "a1", "1");
     set(x, "a2", "2");
     due("open() ends the open one", x.open(), 1);
-    promise = 23;
+    edge("promise 23");
     due("close() of nothing", x.close(), 1);
     due("close() again", x.close(), -1);
     set(x, "a3", "3");
     due("groups", x.house(8), 2);
-    promise = 24;
+    edge("promise 24");
     due("undo()", x.undo(), 1);
     due("all()", x.all(), "a1:1;a2:2");
     due("undo() of a group", x.undo(), 0);
@@ -789,7 +698,7 @@ public final class Promises {
     x.open();
     notNow(x, "undo() of nothing", () -> x.undo());
     due("the group is still open", x.close(), 0);
-    promise = 25;
+    edge("promise 25");
     x.open();
     due("redo()", x.redo(), 1);
     due("the group has ended", x.close(), -1);
@@ -801,7 +710,7 @@ public final class Promises {
     x.undo();
     set(x, "h1", "1");
     notNow(x, "redo() behind an edit", () -> x.redo());
-    promise = 24;
+    edge("promise 24");
     for (int i = 0; i < 20; i++) {
       set(x, "b1", "" + i);
     }
@@ -833,7 +742,7 @@ public final class Promises {
   }
 
   private static void reasons() {
-    promise = 33;
+    edge("promise 33");
     Cellweave x = sheet("a1:1 a2:0 b1:=a1+a2 c1:=I(b1<5,a1,a3) a3:9 d1:=N(a1)");
     due("reason()", x.reason(at("c1")), "0 2");
     due("reason() of a sum", x.reason(1), "0 1");
@@ -854,10 +763,10 @@ public final class Promises {
   }
 
   private static void questions() {
-    promise = 39;
+    edge("promise 39");
     Cellweave x = sheet("h20:1/2 a1:=h20 b1:abc");
     due("all()", x.all(), "a1:=h20;b1:abc;h20:1/2");
-    promise = 40;
+    edge("promise 40");
     x = sheet("a1:1 a2:=a1 a3:=1/0 c1:=c2 c2:=c1 e1:=O(a3:a4) f1:=O(b1:b2) g1:=a2");
     final Cellweave y = x;
     x.lock(9, true);
@@ -875,17 +784,17 @@ public final class Promises {
     bad(x, "house(-1)", () -> y.house(-1));
     Cellweave s = sheet("a1:=1/0 a2:=2/0 b1:=O(a1:a2)");
     due("faults that a list shows", s.house(2), 4);
-    promise = 41;
+    edge("promise 41");
     due("knock()", "" + x.knock() + x.knock() + x.knock(), "123");
     due("house(11)", x.house(11), 3);
-    promise = 42;
+    edge("promise 42");
     due("isSound()", x.isSound(), true);
     due("isSound() of nothing", new Cellweave().isSound(), true);
     Cellweave g = sheet("b2:=S(a1:a9)&C(b6#,a1)&'a6' b7:=a7");
     g.copy(at("b2"), 0);
     due("isSound() with what is gone", g.isSound(), true);
     due("it tries only", g.reckoned() + g.house(8), "0 93");
-    promise = 43;
+    edge("promise 43");
     due("digest()", new Cellweave().digest(), emptyDigest());
     type(x, "=1+");
     due("digest() again", x.digest(), x.digest());
