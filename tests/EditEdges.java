@@ -452,7 +452,12 @@ public final class EditEdges extends Bench {
     due("one to the end", x.goOn(at("g18"), 1), "3");
     due("the last PLACE", x.value(LAST) + x.value(at("g20")), "43");
     Cellweave y = sheet("a2:1 a3:2");
+    idle(y, "18 from the second row", "-9", () -> y.goOn(8, 18));
     due("17 to the end", y.goOn(8, 17), "19");
+    idle(y, "behind the last row of the first column", "-9", () -> y.goOn(at("a19"), 1));
+    idle(y, "two behind the last but one", "-9", () -> y.goOn(at("a18"), 2));
+    idle(y, "the last PLACE of the first column", "-9", () -> y.goOn(at("a20"), 1));
+    due("one to the end of the first column", y.goOn(at("a18"), 1), "19");
     due("16 from the fourth row", y.goOn(16, 16), "19");
   }
 
@@ -576,6 +581,10 @@ public final class EditEdges extends Bench {
     due("all rows", sheet("a20:1 b1:5").sort(0, 19, 0), 20);
     due("the last row", sheet("a20:1 a19:5").sort(18, 19, 0), 2);
     due("by the last column", sheet("h1:5 h2:4").sort(0, 1, 7), 2);
+    Cellweave h = sheet("a1:9 h1:9 h3:5 g3:1 h4:2 g4:3 h5:7 g5:2 h6:4 g6:0 a20:1 h20:-1");
+    due("by the last column, rows 3 to 6", h.sort(2, 5, 7), 4);
+    due("columns g and h", column(h, "g1", 7) + " " + column(h, "h1", 7), ",,3,0,1,2, 9,,2,4,5,7,");
+    due("by the column ahead of it", h.sort(2, 5, 6) + " " + column(h, "h3", 4), "4 4,5,7,2");
     edge("sort: -9, also if a formula stands in one of these rows");
     for (String cell : new String[] {"h3", "a3", "d5", "h5"}) {
       Cellweave f = sheet(cell + ":=a1");

@@ -6,6 +6,7 @@ public final class FormulaEdges extends Bench {
 
   public static void main(String[] args) {
     longNumbers();
+    shownDigits();
     longBottoms();
     longTexts();
     emptyTexts();
@@ -53,8 +54,32 @@ public final class FormulaEdges extends Bench {
         {"=b1-b1", "0"}, {"=b1+b2", "0"}, {"=b1/b1", "1"}, {"=b1/b2", "-1"}, {"=b1/2", LONGEST + "/2"}, {"=b1/2+b1/2", LONGEST},
         {"=b1/2+b1", "#long"}, {"=b1/2*2", LONGEST}, {"=b1*2/2", "#long"}, {"=b1+1/2", "#long"}, {"=b1-1/2", "#long"},
         {"=b1<b3", "false"}, {"=b3<b1", "true"}, {"=b2<b1", "true"}, {"=b1/2<b1/3", "false"}, {"=b1=b4*b5", "true"},
+        {"=b3=b3/2", "false"}, {"=b1=b1-1", "false"}, {"=b1-1<b1", "true"}, {"=b1<b1-1", "false"}, {"=b2<b2+1", "true"}, {"=b2+1<b2", "false"},
+        {"=b1-(b1-1)", "1"}, {"=b1-1-b1", "-1"}, {"=M(b1:b3)", LONGEST}, {"=L(b1:b3)", "-" + LONGEST},
         {"=b1+1=1", "#long"}, {"=N(b1+1)", "true"}, {"=N(b1)", "false"}, {"=b1*b1", "#long"}, {"=b1*b1*0", "#long"}, {"=b1*0", "0"},
     });
+  }
+
+  private static void shownDigits() {
+    edge("Shown: a NUMBER as its top, and, if the bottom is not 1, \"/\" and the bottom");
+    Cellweave x = sheet("a1:1");
+    String zeros = "";
+    for (int i = 1; i <= 27; i++) {
+      zeros += "0";
+      int row = i % 20;
+      int column = i / 20;
+      int before = (i - 1) % 20 * 8 + (i - 1) / 20;
+      type(x, "=" + Model.shown(before) + "*10");
+      x.put(row * 8 + column);
+      due("a power of ten", x.value(row * 8 + column), "1" + zeros);
+      type(x, "=" + Model.shown(row * 8 + column) + "-1");
+      x.put(LAST);
+      due("one less", x.value(LAST), "9" + zeros.replace('0', '9').substring(1));
+      type(x, "=-7/" + Model.shown(row * 8 + column));
+      x.put(LAST);
+      due("below", x.value(LAST), "-7/1" + zeros);
+    }
+    all("", new String[][] {{"=0/7", "0"}, {"=7/7", "1"}, {"=-7/7", "-1"}, {"=10/4", "5/2"}});
   }
 
   private static void longBottoms() {
@@ -66,6 +91,8 @@ public final class FormulaEdges extends Bench {
         {"=1/b3+1/b3", "1/309485009821345068724781056"}, {"=1/b1-1/b1", "0"}, {"=b1/b3", LONGEST + "/618970019642690137449562112"},
         {"=b3/b1", "618970019642690137449562112/" + LONGEST}, {"=b3/b1*b1", "618970019642690137449562112"}, {"=b1/b3*b3/b1", "1"},
         {"=1/b4-1/b5", "2/" + LONGEST}, {"=1/b4*1/b5", "1/" + LONGEST}, {"=1/b4/b5", "1/" + LONGEST}, {"=1/a1*1/a1", "#long"},
+        {"=1/b5", "1/35184372088833"}, {"=3/b5", "1/11728124029611"}, {"=1/(a1*1024*32+1)", "1/1152921504606846977"}, {"=1/b3=2/b3", "false"},
+        {"=1/b3=1/b3", "true"}, {"=1/b1=1/(b1-1)", "false"}, {"=1/b1<1/(b1-1)", "true"}, {"=1/(b1-1)<1/b1", "false"},
         {"=1/b1<1/b3", "true"}, {"=1/b3<1/b1", "false"}, {"=-1/b1<0", "true"},
     });
   }
@@ -107,6 +134,7 @@ public final class FormulaEdges extends Bench {
         {"=T=X", "false"}, {"=X=X", "true"}, {"=T=1", "false"}, {"=X=0", "false"}, {"=a5=1234*1000+567", "false"},
         {"=1/3=2/6", "true"}, {"=1/3=1/4", "false"}, {"=1/3=2/3", "false"}, {"=1=-1", "false"}, {"=a6='abc'", "true"},
         {"=a6='ab'", "false"}, {"=a6='abcd'", "false"}, {"=a6='abd'", "false"}, {"=a6='Tbc'", "false"}, {"=0=-0", "true"},
+        {"=('abcdefgha'='abcdefgha')&(a1=1)", "truetrue"}, {"=('abcdefgha'='hgfedcbah')&(1=a1)", "falsetrue"}, {"=a1&(1=a1)", "1true"},
         {"=C(a1:a6,1)", "2"}, {"=C(a1:a6,'1')", "1"}, {"=C(a1:a6,T)", "0"}, {"=C(a1:a6,a3)", "1"},
     });
   }
@@ -369,7 +397,9 @@ public final class FormulaEdges extends Bench {
     edge("F: those of the first range whose partner by number in the second one is true (a missing one is not); as a VALUE EMPTY is 0 there");
     due("true ones", listed("=F(a5:a7,c5:c7)", "a5:1 a6:2 a7:3 c5:=T c6:=X c7:=T", 2), "1,3");
     due("what is not true", listed("=F(a5:a10,c5:c10)", "a5:1 a6:2 a7:3 a8:4 a9:5 a10:6 c5:1 c6:=T&'' c7:=X c9:=1/0 c10:=T", 1), "6");
-    due("a missing partner", listed("=F(a5:a7,c5)", "a5:1 a6:2 a7:3 c5:=T", 1), "1");
+    due("a missing partner", listed("=F(a5:a7,c5)", "a5:1 a6:2 a7:3 c5:=T c6:=T d5:=T c7:=T", 1), "1");
+    due("two of three partners", listed("=F(a5:a7,c5:c6)", "a5:1 a6:2 a7:3 c5:=T c6:=T d5:=T c7:=T", 2), "1,2");
+    due("a name's partners", listed("=F(a5:a7,c5:d5)", "a5:1 a6:2 a7:3 c5:=T c6:=T d5:=T d6:=T", 2), "1,2");
     due("more partners", listed("=F(a5,c5:c7)", "a5:1 c5:=T c6:=T", 1), "1");
     due("EMPTY is 0", listed("=F(a5:a7,c5:c7)", "a5:1 c5:=T c6:=T c7:=T", 3), "1,0,0");
     due("FAULTS come", listed("=F(a5:a6,c5:c6)", "a5:=1/0 a6:2 c5:=T c6:=T", 2), "#zero,2");

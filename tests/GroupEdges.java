@@ -112,6 +112,16 @@ public final class GroupEdges extends Bench {
     x.undo();
     notNow(x, "undo() of what is UNDONE", () -> x.undo());
     due("what can be DONE AGAIN", x.house(9), 1);
+    edge("an open GROUP goes on behind calls that are REFUSED or wrong");
+    Cellweave g = sheet("a1:1");
+    g.lock(9, true);
+    g.open();
+    set(g, "a2", "1");
+    due("clear()", g.clear(9), -9);
+    bad(g, "clear(160)", () -> g.clear(160));
+    notNow(g, "redo()", () -> g.redo());
+    set(g, "a3", "1");
+    due("one GROUP", g.close() + "," + g.undo() + g.all(), "3,2a1:1");
     edge("redo: if there is none");
     x.redo();
     notNow(x, "redo()", () -> x.redo());
@@ -423,6 +433,21 @@ public final class GroupEdges extends Bench {
     x.lock(0, true);
     x.check(0, 5, 5);
     due("names, LOCKS, CHECKS are no TEXTS", x.differs(2), "0 18 26 159");
+    String[][] pairs = {{"5", "a", "0"}, {"5", "abc", "0"}, {"abc", "5", "0"}, {"=1", "=12", "0"}, {"=12", "=1", "0"}, {"=a1", "=a1+1", "0"}, {"=a1+1", "=a1", "0"},
+        {"=1", "1", "0"}, {"1", "=1", "0"}, {"=''", "''", "0"}, {"abc", "abd", "0"}, {"abc", "ab", "0"}, {"5", "-5", "0"}, {"1/2", "1/3", "0"}, {"1/2", "2", "0"},
+        {"=a1", "=b1", "0"}, {"=S(a1)", "=L(a1)", "0"}, {"=O(a1)", "=U(a1)", "0"}, {"6/4", "3/2", ""}, {"-0", "0", ""}, {"007", "7", ""}, {"=07", "=7", "0"}};
+    for (String[] one : pairs) {
+      Cellweave p = sheet("a1:" + one[0]);
+      p.keep(0);
+      set(p, "a1", one[1]);
+      due(one[0] + " and " + one[1], p.differs(0), one[2]);
+    }
+    for (String text : new String[] {"1999998", "2999997", "19999970", "1999990", "1999997a"}) {
+      Cellweave m = million();
+      m.keep(0);
+      set(m, "a3", text);
+      due("the NUMBER 1999997 and the text " + text, m.differs(0), "16");
+    }
     Cellweave r = sheet("a9:1 b1:=a9 c1:=S(a8:a9) d1:=S(a8#)");
     r.keep(0);
     r.putIn(false, 8);

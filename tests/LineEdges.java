@@ -31,7 +31,7 @@ public final class LineEdges extends Bench {
     StringBuilder b = new StringBuilder();
     for (int row = 3; row <= 7; row++) {
       x.lock(8 * row + 2, false);
-      set(x, "c" + (row + 1), "1");
+      set(x, "c" + (row + 1), "9");
       b.append(x.ofPlace(8 * row + 1, 7)).append(x.ofPlace(8 * row + 2, 8)).append(' ');
     }
     due("LOCKS and CHECKS", b.toString(), "11 00 11 11 00 ");
@@ -84,8 +84,11 @@ public final class LineEdges extends Bench {
     l.check(at("c20"), 3, 3);
     idle(l, "a CHECK", -9, () -> l.putIn(false, 0));
     l.check(at("c20"), 3, 2);
-    l.name(4, at("b3"), at("c20"));
-    idle(l, "a name", -9, () -> l.putIn(false, 5));
+    for (int n = 0; n < 6; n++) {
+      l.name(n, at("b3"), at("c20"));
+      idle(l, "a name", -9, () -> l.putIn(false, 5));
+      l.name(n, -1, 0);
+    }
     l.name(4, at("c20"), at("b3"));
     idle(l, "a name the other way", -9, () -> l.putIn(false, 5));
     l.name(4, at("c19"), at("b3"));
@@ -122,6 +125,11 @@ public final class LineEdges extends Bench {
     l.check(at("h3"), 3, 3);
     idle(l, "a CHECK", -9, () -> l.putIn(true, 0));
     l.check(at("h3"), 3, 2);
+    for (int n = 0; n < 6; n++) {
+      l.name(n, at("h3"), at("h3"));
+      idle(l, "a name", -9, () -> l.putIn(true, 5));
+      l.name(n, -1, 0);
+    }
     l.name(4, at("h3"), at("a20"));
     idle(l, "a name", -9, () -> l.putIn(true, 5));
     idle(l, "a name and a row", -9, () -> l.putIn(false, 5));

@@ -36,6 +36,7 @@ public final class NeedEdges extends Bench {
     String cells = "a1:1 b1:2 a2:3 b2:4 c3:5";
     due("PLACES", needs(cells, "=a1+$b$2+a9"), "0 9");
     due("one PLACE twice", needs(cells, "=a1+a1"), "0");
+    due("the corners of the sheet", needs("a1:1 h1:2 a20:3", "=S(a1:h19)+a20"), "0 7 152");
     due("between two corners", needs(cells, "=S(b2:a1)"), "0 1 8 9");
     due("between the other corners", needs(cells, "=S(a2:b1)"), "0 1 8 9");
     due("one row", needs(cells, "=S(a1:h1)"), "0 1");
@@ -106,6 +107,12 @@ public final class NeedEdges extends Bench {
     due("above is not below", needs("a1:1 b5:=O(a1)", "=b4"), "");
     due("the first row", needs("a1:1 b2:=O(a1)", "=b1"), "");
     due("the column ahead", needs("h1:=O(a3)", "=a2"), "");
+    for (int c = 0; c < 8; c++) {
+      String letter = "" + (char) ('a' + c);
+      String list = letter + "1:=U(" + letter + "9:" + letter + "10) " + letter + "9:5 " + letter + "10:6";
+      due("a LIST at " + letter + "1, the second row", needs(list, "=" + letter + "2"), "" + c);
+      due("it shows", sheet(list).ofPlace(c, 10) + "," + sheet(list).value(c + 8) + "," + sheet(list).source(c + 8), "2,6," + c);
+    }
   }
 
   private static void standsBelowLists() {

@@ -172,6 +172,8 @@ public final class QuestionEdges extends Bench {
     due("a branch that is not taken", x.reason(2), "0 2");
     Cellweave z = sheet("a1:0 b1:=a1 c1:=b1+0");
     due("nothing but itself", z.reason(2) + "," + z.reason(1), "2,1");
+    Cellweave h = sheet("a1:=I(T,5,h20)+b1 h20:3 b1:1 g20:=a1");
+    due("the first and the last PLACE", h.reason(0) + "," + h.reason(LAST) + "," + h.reason(LAST - 1), "0 1,159,0 1 158");
     Cellweave r = sheet("a1:=b1+c1 b1:=a1 c1:=a1 d1:=c1");
     due("a RING: one way is enough", r.reason(0) + "," + r.reason(3), "0 1,0 2 3");
     due("a RING of one", sheet("a1:=a1").reason(0), "0");
@@ -208,6 +210,11 @@ public final class QuestionEdges extends Bench {
     due("what LEANS ON it", l.reason(3), "0 2 3 8 10");
     Cellweave f = sheet("a1:1 a2:2 b1:=O(a1:a2) b5:7 b9:8 c1:=S(b1#)");
     due("the nearest one alone", f.reason(2), "0 1 2 8");
+    Cellweave b = sheet("a1:1 a2:2 a3:5 c1:=O(a1:a3) c3:5 d1:=c3");
+    due("what would be shown by a CELL that is not among these", b.reason(3), "3 18");
+    Cellweave p = sheet("a1:1 a2:5 c1:7 c2:=O(a1:a2) c3:5 d1:=c1+c3+a1*0+a2*0");
+    due("the CELL below what is no LIST", p.reason(3), "2 3 18");
+    due("a LIST at the first PLACE", sheet("a1:=O(b1:b2) b1:1 b2:2 a2:5").reason(0), "0 1 8 9");
     due("BARRED by the end", sheet("a1:1 a2:2 h20:=O(a1:a2)").reason(LAST), "0 8 159");
   }
 
@@ -294,6 +301,11 @@ public final class QuestionEdges extends Bench {
     due("bad()", x.bad(), "0 26 159");
     due("differs()", x.differs(0), "0 1 7 26 159");
     due("needs()", x.needs(0, true), "1 7 26 159");
+    edge("ofPlace: 9 1 if it was RECKONED by the last EDIT");
+    Cellweave f = sheet("a1:=1 h20:=a1");
+    due("the last one", "" + f.ofPlace(0, 9) + f.ofPlace(LAST, 9) + f.reckoned(), "01159");
+    set(f, "a1", "=2");
+    due("the first one", "" + f.ofPlace(0, 9) + f.ofPlace(LAST, 9) + f.reckoned(), "110 159");
   }
 
   private static void named() {
@@ -401,7 +413,7 @@ public final class QuestionEdges extends Bench {
   }
 
   /** The checksum as the document tells it, from what the other calls answer. */
-  private static long digestOf(Cellweave x) {
+  static long digestOf(Cellweave x) {
     long d = 5800;
     for (int what = 0; what <= 11; what++) {
       d = more(d, x.house(what));
@@ -446,6 +458,15 @@ public final class QuestionEdges extends Bench {
       type(y, "=1+)");
       due("with an INPUT", y.digest(), digestOf(y));
       idle(y, "digest()", y.digest(), () -> y.digest());
+    }
+    for (int p : new int[] {0, 9, 10, 11, 98, 99, 100, 101, LAST}) {
+      Cellweave one = new Cellweave();
+      type(one, "T");
+      one.put(p);
+      due("of a CELL at " + p, one.digest(), digestOf(one));
+      type(one, "1");
+      one.put(5);
+      due("of two CELLS", one.digest(), digestOf(one));
     }
     Cellweave f = full();
     f.fill(at("h20"), at("a1"), at("a8"));
