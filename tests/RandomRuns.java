@@ -14,8 +14,11 @@ public final class RandomRuns {
   private final Cellweave x = new Cellweave();
   private final Model m = new Model();
   private final List<String> log = new ArrayList<>();
+  // Most calls keep to so many rows and columns, from these on.
   private final int rows;
   private final int columns;
+  private final int firstRow;
+  private final int firstColumn;
   // 0 anything, 1 long numbers, 2 lists, 3 a full sheet, 4 undoing and versions.
   private final int mode;
   // Calm runs change few rows, and their formulas need only what stands above, so that few rings come.
@@ -29,6 +32,9 @@ public final class RandomRuns {
     isCalm = seed % 3 != 0;
     rows = random.nextInt(4) == 0 ? 20 : 4 + random.nextInt(8);
     columns = random.nextInt(4) == 0 ? 8 : 2 + random.nextInt(3);
+    boolean isAtEnd = seed % 4 == 1;
+    firstRow = isAtEnd ? 20 - rows : 0;
+    firstColumn = isAtEnd ? 8 - columns : 0;
   }
 
   public static void main(String[] args) {
@@ -119,14 +125,14 @@ public final class RandomRuns {
     if (random.nextInt(20) == 0) {
       return random.nextInt(160);
     }
-    return random.nextInt(rows) * 8 + random.nextInt(columns);
+    return (firstRow + random.nextInt(rows)) * 8 + firstColumn + random.nextInt(columns);
   }
 
   private int line(boolean isColumn) {
     if (random.nextInt(20) == 0) {
       return random.nextInt(24) - 2;
     }
-    return random.nextInt(isColumn ? columns : rows);
+    return isColumn ? firstColumn + random.nextInt(columns) : firstRow + random.nextInt(rows);
   }
 
   private void type(String text) {
@@ -139,7 +145,8 @@ public final class RandomRuns {
   private String placeText() {
     int p = Math.max(0, Math.min(159, aPlace()));
     if (isCalm && p / 8 >= target / 8 && random.nextInt(25) > 0) {
-      p = p % 8 + (target < 8 ? 8 : 8 * random.nextInt(target / 8));
+      int above = target / 8 - firstRow;
+      p = p % 8 + 8 * (above < 1 ? Math.min(firstRow + 1, 19) : firstRow + random.nextInt(above));
     }
     String column = "" + (char) ('a' + p % 8);
     return (random.nextInt(6) == 0 ? "$" : "") + column + (random.nextInt(6) == 0 ? "$" : "")
@@ -153,7 +160,7 @@ public final class RandomRuns {
       case 1:
         return placeText() + "#";
       case 2:
-        return "n" + random.nextInt(3);
+        return "n" + random.nextInt(random.nextInt(4) == 0 ? 6 : 3);
       default:
         return placeText() + ":" + placeText();
     }
@@ -333,7 +340,7 @@ public final class RandomRuns {
         same("fill", aPlace(), aPlace(), aPlace());
         return;
       case 20:
-        same("goOn", aPlace(), random.nextInt(8));
+        same("goOn", aPlace(), random.nextInt(random.nextInt(4) == 0 ? 21 : 8));
         return;
       case 21:
         same("putIn", isColumn, line(isColumn));
